@@ -1,0 +1,48 @@
+/** Holds answers against those that are due, and ends a test with exit code 1 if one was not. */
+final class Answers {
+    static final int BEYOND = -1000000001;
+    static final int NONE = -1000000002;
+    static final int STATE = -1000000003;
+    static final int FULL = -1000000004;
+    static final int KIND = -1000000005;
+
+    private static int asked = 0;
+    private static int wrong = 0;
+
+    private Answers() {
+    }
+
+    static void due(String call, long got, long want) {
+        asked++;
+        if (got != want) {
+            wrong++;
+            System.out.println(call + " answered " + got + ", due is " + want);
+        }
+    }
+
+    static void dueAll(String calls, int[] got, int... want) {
+        due(calls + ", how many", got.length, want.length);
+        for (int i = 0; i < Math.min(got.length, want.length); i++) {
+            due(calls + ", row " + i, got[i], want[i]);
+        }
+    }
+
+    /** Feeds a text to THE TAPE, byte by byte. */
+    static void feed(SixFigures x, String text) {
+        for (int i = 0; i < text.length(); i++) {
+            x.feed(text.charAt(i), 1);
+        }
+    }
+
+    static int text(SixFigures x, int use, String text) {
+        feed(x, text);
+        return x.text(use);
+    }
+
+    static void finish() {
+        System.out.println(asked + " answers, " + wrong + " not as due");
+        if (wrong != 0 || asked == 0) {
+            System.exit(1);
+        }
+    }
+}
