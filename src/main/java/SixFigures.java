@@ -4,6 +4,7 @@
  */
 public final class SixFigures {
     private static final int LOW = -1000000000;
+    private static final int NO_ERROR = 0;
     private static final int BEYOND = 1;
     private static final int NONE = 2;
     private static final int STATE = 3;
@@ -266,11 +267,9 @@ public final class SixFigures {
     // ---- codes, seconds
 
     public int ask(int way) {
-        if (!isWay(way)) {
-            return error(BEYOND);
-        }
-        if (isLost(way)) {
-            return error(STATE);
+        int refused = refusalOfAsking(way);
+        if (refused != NO_ERROR) {
+            return error(refused);
         }
         return send(way);
     }
@@ -349,6 +348,13 @@ public final class SixFigures {
         return true;
     }
 
+    private int refusalOfAsking(int way) {
+        if (!isWay(way)) {
+            return BEYOND;
+        }
+        return isLost(way) ? STATE : NO_ERROR;
+    }
+
     private int draw() {
         book.z = book.z * 1103515245 + 12345;
         return book.z >>> 8;
@@ -391,11 +397,9 @@ public final class SixFigures {
     // ---- what would be
 
     public int fetched(int way, int what) {
-        if (!isWay(way) || !within(what, 1)) {
-            return error(BEYOND);
-        }
-        if (isLost(way)) {
-            return error(STATE);
+        int refused = within(what, 1) ? refusalOfAsking(way) : BEYOND;
+        if (refused != NO_ERROR) {
+            return error(refused);
         }
         if (what == 1) {
             return secondsToEnter(way, book.second);
@@ -404,11 +408,9 @@ public final class SixFigures {
     }
 
     public int holdFor(int way) {
-        if (!isWay(way)) {
-            return error(BEYOND);
-        }
-        if (isLost(way)) {
-            return error(STATE);
+        int refused = refusalOfAsking(way);
+        if (refused != NO_ERROR) {
+            return error(refused);
         }
         int takes = secondsToEnter(way, book.second);
         if (isEntered(way, book.second + takes)) {
@@ -513,11 +515,9 @@ public final class SixFigures {
     }
 
     public int which(int sheet) {
-        if (!isSheet(sheet)) {
-            return error(BEYOND);
-        }
-        if (isMissing(sheet)) {
-            return error(NONE);
+        int refused = refusalOfSheet(sheet);
+        if (refused != NO_ERROR) {
+            return error(refused);
         }
         int set = 0;
         for (int way = 0; way < book.wayCount; way++) {
@@ -536,11 +536,9 @@ public final class SixFigures {
     }
 
     public int odds(int way, int part) {
-        if (!isWay(way) || !within(part, 1)) {
-            return error(BEYOND);
-        }
-        if (isLost(way)) {
-            return error(STATE);
+        int refused = within(part, 1) ? refusalOfAsking(way) : BEYOND;
+        if (refused != NO_ERROR) {
+            return error(refused);
         }
         int minute = book.second - book.second % MINUTE;
         int good = 0;
@@ -661,11 +659,9 @@ public final class SixFigures {
     }
 
     public int put(int sheet, int i, int v) {
-        if (!isSheet(sheet)) {
-            return error(BEYOND);
-        }
-        if (isMissing(sheet)) {
-            return error(NONE);
+        int refused = refusalOfSheet(sheet);
+        if (refused != NO_ERROR) {
+            return error(refused);
         }
         if (i < 0 || i >= sheetSizes[sheet]) {
             return error(BEYOND);
@@ -692,11 +688,9 @@ public final class SixFigures {
     }
 
     public int fars(int sheet) {
-        if (!isSheet(sheet)) {
-            return error(BEYOND);
-        }
-        if (isMissing(sheet)) {
-            return error(NONE);
+        int refused = refusalOfSheet(sheet);
+        if (refused != NO_ERROR) {
+            return error(refused);
         }
         int most = Math.min(sheetSizes[sheet], book.wayCount);
         for (int i = 0; i < most; i++) {
@@ -709,11 +703,9 @@ public final class SixFigures {
     }
 
     public int judge(int sheet) {
-        if (!isSheet(sheet)) {
-            return error(BEYOND);
-        }
-        if (isMissing(sheet)) {
-            return error(NONE);
+        int refused = refusalOfSheet(sheet);
+        if (refused != NO_ERROR) {
+            return error(refused);
         }
         int most = Math.min(sheetSizes[sheet], book.wayCount);
         for (int i = 0; i < most; i++) {
@@ -804,6 +796,13 @@ public final class SixFigures {
 
     private boolean isMissing(int sheet) {
         return sheetBits[sheet] == 0;
+    }
+
+    private int refusalOfSheet(int sheet) {
+        if (!isSheet(sheet)) {
+            return BEYOND;
+        }
+        return isMissing(sheet) ? NONE : NO_ERROR;
     }
 
     /** Numbers of 8 and 16 bits have a sign, as Java's own have. */

@@ -54,6 +54,7 @@ public final class PromiseTest {
         promise35Judge();
         promise36Image();
         promise37Restore();
+        promise37Counters();
         promise38Tell();
         promise39Check();
         promise40Count();
@@ -319,6 +320,7 @@ public final class PromiseTest {
         due("& ahead of |", law("m|k&s", 1, 0, 0), 1);
         due("< behind +", law("1+m<k+1", 3, 4, 0), 1);
         due("=", law("m=k", 3, 3, 0), 1);
+        due("<", law("m<k", 3, 3, 0), 0);
         due(">", law("m>k", 3, 3, 0), 0);
         due("& behind <", law("m<k&s", 1, 2, 3), 1);
         due("brackets", law("(m+k)*s", 1, 2, 3), 9);
@@ -358,6 +360,19 @@ public final class PromiseTest {
         due("go one down", x.ofCode(0, 1), second);
         due("SENT of the last", x.ofCode(9, 2), 8);
         due("SENT of the one ahead", x.ofCode(8, 2), 7);
+        SixFigures y = new SixFigures();
+        y.way(20, 0, 0);
+        y.way(20, 0, 0);
+        y.ask(1);
+        due("BY", y.ofCode(0, 0), 1);
+        due("in", y.enter(y.ofCode(0, 1)), 1);
+        for (int i = 0; i < 9; i++) {
+            y.ask(0);
+        }
+        due("USED", y.ofCode(0, 5), 1);
+        due("an eleventh", y.ask(0), 9);
+        due("not USED", y.ofCode(9, 5), 0);
+        due("BY", y.ofCode(9, 0), 0);
     }
 
     private static void promise12OfCode() {
@@ -504,6 +519,7 @@ public final class PromiseTest {
         due("loose", x.loose(0), BEYOND);
         due("loose", x.loose(61), BEYOND);
         due("loose", x.loose(-1), BEYOND);
+        due("one SECOND", new SixFigures().loose(1), 0);
         due("without WAYS", x.loose(60), 0);
         int z = 1;
         for (int i = 0; i < 60; i++) {
@@ -651,6 +667,11 @@ public final class PromiseTest {
         due("fewest", x.fastest(0), 1);
         x.change(1, 2, 1);
         due("none", x.fastest(0), NONE);
+        x.change(0, 0, 1);
+        due("WAY 0", x.fastest(0), 0);
+        due("SECONDS", x.fastest(1), 4);
+        x.change(1, 2, 0);
+        due("WAY 0 is faster", x.fastest(0), 0);
     }
 
     private static void promise19FiguresFor() {
@@ -716,6 +737,15 @@ public final class PromiseTest {
         x.pass(48);
         x.ask(0);
         due("comes with another", x.crossed(), 5);
+        SixFigures y = new SixFigures();
+        y.way(9, 0, 0);
+        y.way(20, 0, 0);
+        y.ask(0);
+        y.ask(1);
+        due("SENT in the same SECOND", y.crossed(), 0);
+        y.pass(1);
+        y.ask(1);
+        due("SENT a SECOND later", y.crossed(), 1);
     }
 
     private static void promise22AtOnce() {
@@ -741,6 +771,13 @@ public final class PromiseTest {
         due("LOST already", x.atOnce(3, 1), 8);
         due("LOST already", x.atOnce(5, 1), 0);
         due("only thought", x.ofWay(2, 4), 0);
+        SixFigures y = new SixFigures();
+        for (int place = 0; place < 6; place++) {
+            y.way(0, 0, place);
+        }
+        due("all", y.atOnce(0, 0), 6);
+        due("all", y.atOnce(0, 1), 63);
+        due("all but one", y.atOnce(1, 1), 31);
     }
 
     private static void promise23Together() {
@@ -779,6 +816,10 @@ public final class PromiseTest {
         due("the other", x.waitFor(), 4);
         x.pass(4);
         due("none", x.waitFor(), NONE);
+        SixFigures y = new SixFigures();
+        y.way(0, 0, 0);
+        y.ask(0);
+        due("the first CODE", y.waitFor(), 3);
     }
 
     private static void promise25Which() {
@@ -1104,6 +1145,30 @@ public final class PromiseTest {
         Answers.dueAll("counts", counts(x), before);
         Answers.dueAll("codes", ofCodes(x), code);
         due("THE TAPE", x.text(0), -11);
+    }
+
+    private static void promise37Counters() {
+        SixFigures x = new SixFigures();
+        x.way(20, 0, 0);
+        x.image();
+        x.ask(0);
+        x.enter(x.ofCode(0, 1));
+        x.enter(0);
+        x.tell(3);
+        due("restore", x.restore(), 0);
+        due("CODES", x.count(1), 0);
+        due("WRONG", x.count(3), 0);
+        due("IN", x.count(5), 0);
+        due("waiting", x.count(12), 0);
+        due("z", x.count(14), 1);
+        x.become(0, 3);
+        x.tell(6);
+        x.tell(6);
+        x.image();
+        x.check();
+        x.tell(9);
+        x.restore();
+        due("what waits", x.check(), 0);
     }
 
     private static void fill(SixFigures x) {
