@@ -8,15 +8,26 @@ final class Answers {
 
     private static int asked = 0;
     private static int wrong = 0;
+    private static String by = "";
 
     private Answers() {
+    }
+
+    /** The sentence of a promise that the answers from here on are due by; SentencesTest reads these calls. */
+    static void sentence(int promise, String words) {
+        by = "[promise " + promise + ": " + words + "] ";
+    }
+
+    /** As sentence(), of the document's Terms: 1 to 4, and 0 for what stands ahead of them. */
+    static void term(int number, String words) {
+        by = "[terms " + number + ": " + words + "] ";
     }
 
     static void due(String call, long got, long want) {
         asked++;
         if (got != want) {
             wrong++;
-            System.out.println(call + " answered " + got + ", due is " + want);
+            System.out.println(by + call + " answered " + got + ", due is " + want);
         }
     }
 
