@@ -62,17 +62,9 @@ public final class PromiseTest {
         Answers.finish();
     }
 
-    private static int[] counts(SixFigures x) {
-        int[] all = new int[15];
-        for (int i = 0; i < all.length; i++) {
-            all[i] = x.count(i);
-        }
-        return all;
-    }
-
     private static void promise1NewObject() {
         SixFigures x = new SixFigures();
-        Answers.dueAll("new, count", counts(x), 0, 0, 0, 0, 0, 0, 6, 30, 3, 3600, 0, 0, 0, 0, 1);
+        Answers.dueAll("new, count", Acts.counts(x), 0, 0, 0, 0, 0, 0, 6, 30, 3, 3600, 0, 0, 0, 0, 1);
         for (int sheet = 0; sheet < 4; sheet++) {
             due("new, judge", x.judge(sheet), NONE);
         }
@@ -483,20 +475,14 @@ public final class PromiseTest {
         x.rule(2, 1);
         due("fewer TRIES than WRONG", x.enter(0), 0);
         due("SHUT TILL", x.count(4), 22);
-        passTo(x, 999997);
+        Acts.passTo(x, 999997);
         due("the last SECOND", x.enter(0), 0);
         due("second", x.count(2), 999999);
         due("SHUT TILL", x.count(4), 1000004);
         SixFigures y = new SixFigures();
-        passTo(y, 999998);
+        Acts.passTo(y, 999998);
         due("above the last SECOND", y.enter(0), STATE);
         due("WRONG", y.count(3), 0);
-    }
-
-    private static void passTo(SixFigures x, int second) {
-        while (x.count(2) < second) {
-            x.pass(Math.min(9999, second - x.count(2)));
-        }
     }
 
     private static void promise14Pass() {
@@ -507,7 +493,7 @@ public final class PromiseTest {
         due("pass", x.pass(MAX), BEYOND);
         due("pass", x.pass(1), 1);
         due("pass", x.pass(9999), 10000);
-        passTo(x, 999990);
+        Acts.passTo(x, 999990);
         due("pass", x.pass(10), STATE);
         due("pass", x.pass(10000), BEYOND);
         due("pass", x.pass(9), 999999);
@@ -527,7 +513,7 @@ public final class PromiseTest {
         }
         due("a draw each", x.count(14), z);
         due("second", x.count(2), 60);
-        passTo(x, 999980);
+        Acts.passTo(x, 999980);
         due("loose", x.loose(20), STATE);
         due("loose", x.loose(61), BEYOND);
         due("loose", x.loose(19), 0);
@@ -1120,12 +1106,12 @@ public final class PromiseTest {
         fill(x);
         x.sheet(0, 8, 1);
         x.image();
-        int[] before = counts(x);
+        int[] before = Acts.counts(x);
         int[] code = ofCodes(x);
         spoil(x);
         due("restore", x.restore(), before[2]);
         before[13] = 6;
-        Answers.dueAll("counts", counts(x), before);
+        Answers.dueAll("counts", Acts.counts(x), before);
         Answers.dueAll("codes", ofCodes(x), code);
         due("LATE", x.law(0, 6, 0, 0), 12);
         due("SLIPS", x.law(1, 0, 5, 0), 0);
@@ -1142,7 +1128,7 @@ public final class PromiseTest {
         due("what waits", x.check(), 2);
         spoil(x);
         due("the IMAGE stays", x.restore(), before[2]);
-        Answers.dueAll("counts", counts(x), before);
+        Answers.dueAll("counts", Acts.counts(x), before);
         Answers.dueAll("codes", ofCodes(x), code);
         due("THE TAPE", x.text(0), -11);
     }
@@ -1280,7 +1266,7 @@ public final class PromiseTest {
         SixFigures x = new SixFigures();
         fill(x);
         // 37 SECONDS, six entered numbers of 2 SECONDS, the fourth wrong one shuts: the fifth isn't taken.
-        Answers.dueAll("count", counts(x), 2, 10, 47, 0, 491, 1, 4, 44, 4, 444, 1, 2, 2, 1, x.seed(0));
+        Answers.dueAll("count", Acts.counts(x), 2, 10, 47, 0, 491, 1, 4, 44, 4, 444, 1, 2, 2, 1, x.seed(0));
         due("what", x.count(-1), BEYOND);
         due("what", x.count(15), BEYOND);
         due("what", x.count(MIN), BEYOND);

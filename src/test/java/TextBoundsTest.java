@@ -437,6 +437,12 @@ public final class TextBoundsTest {
         due("in place of one ahead", x.law(0, 1, 0, 0), 13);
         due("a shorter one", Answers.text(x, 0, "s"), 1);
         due("a shorter one", x.law(0, 1, 2, 3), 3);
+        due("the longest one", Answers.text(x, 0, "!m" + "+m".repeat(24)), 1);
+        due("the longest one", x.law(0, 2, 0, 0), 48);
+        due("a longer one", Answers.text(x, 0, "!!!m"), 1);
+        due("a longer one", x.law(0, 7, 0, 0), 0);
+        due("nothing is left of it", Answers.text(x, 0, "m"), 1);
+        due("nothing is left of it", x.law(0, 7, 0, 0), 7);
         due("USE 1 stays", x.law(1, 0, 1, 0), 1);
         Answers.sentence(9, "BEYOND (THE TAPE stays).");
         Answers.feed(x, "k+5");
