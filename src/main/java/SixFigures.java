@@ -88,7 +88,7 @@ public final class SixFigures {
     private final Way[] kinds = {
         new Way(), new Phone(), new Card(), new CodeList(), new Shared(), new Grid(), new Spare()
     };
-    private final Reader reader = new Reader(book.tape);
+    private final Reader reader = new Reader();
     private final int[] stack = new int[TAPE_SIZE];
     private final Trace bodies = new Trace();
     private final int[][] sheets = new int[SHEETS][SHEET_SIZE];
@@ -238,7 +238,7 @@ public final class SixFigures {
         if (!within(use, USES - 1)) {
             return error(BEYOND);
         }
-        boolean isText = reader.reads(book.tapeSize, use == LATE ? LATE_NAMES : SLIPS_NAMES);
+        boolean isText = reader.reads(book.tape, book.tapeSize, use == LATE ? LATE_NAMES : SLIPS_NAMES);
         book.tapeSize = 0;
         if (!isText) {
             return -10 - reader.at;
@@ -909,7 +909,7 @@ public final class SixFigures {
                     }
                 } else if (step == -'!') {
                     if (top >= 1) {
-                        stack[top - 1] = truth(stack[top - 1] == 0);
+                        stack[top - 1] = stack[top - 1] == 0 ? 1 : 0;
                     }
                 } else if (top >= 2) {
                     top--;
@@ -935,15 +935,15 @@ public final class SixFigures {
         private static int joined(int sign, int left, int right) {
             switch (sign) {
                 case '|':
-                    return truth(left != 0 || right != 0);
+                    return left != 0 || right != 0 ? 1 : 0;
                 case '&':
-                    return truth(left != 0 && right != 0);
+                    return left != 0 && right != 0 ? 1 : 0;
                 case '<':
-                    return truth(left < right);
+                    return left < right ? 1 : 0;
                 case '=':
-                    return truth(left == right);
+                    return left == right ? 1 : 0;
                 case '>':
-                    return truth(left > right);
+                    return left > right ? 1 : 0;
                 case '+':
                     return left + right;
                 case '-':
@@ -956,10 +956,6 @@ public final class SixFigures {
                     return right == 0 ? 0 : left % right;
             }
         }
-
-        private static int truth(boolean is) {
-            return is ? 1 : 0;
-        }
     }
 
     /**
@@ -967,19 +963,16 @@ public final class SixFigures {
      * FAULT, when it has halted.
      */
     private static final class Reader {
-        final int[] tape;
+        final int[] bytes = new int[TAPE_SIZE];
         final Text read = new Text();
         int at = 0;
         int end = 0;
         String names = "";
 
-        Reader(int[] tape) {
-            this.tape = tape;
-        }
-
-        boolean reads(int tapeSize, String namesOfUse) {
+        boolean reads(int[] tape, int tapeSize, String namesOfUse) {
+            System.arraycopy(tape, 0, bytes, 0, Math.min(tape.length, bytes.length));
             at = 0;
-            end = Math.min(tapeSize, tape.length);
+            end = Math.min(tapeSize, bytes.length);
             names = namesOfUse;
             read.size = 0;
             return readLevel(ANY, 0) && at == end;
@@ -1052,7 +1045,7 @@ public final class SixFigures {
 
         /** The byte that it stands at; -1 at the end. */
         private int next() {
-            return at >= 0 && at < end ? tape[at] : -1;
+            return at >= 0 && at < end ? bytes[at] : -1;
         }
 
         private static boolean isDigit(int sign) {
